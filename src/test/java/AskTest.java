@@ -46,8 +46,8 @@ public final class AskTest {
         }
         CHECK.due("field of the parent", x.field(0, 0, 0), 100);
         CHECK.due("capture of the parent", x.capture(0, 0, 0), 21);
-        int[][] none = {{0, 0, 1}, {0, 1, 4}, {0, 1, -1}, {0, 0, -1}, {0, 2, 0}, {1, 1, 0}, {2, 0, 0}, {-1, 0, 0}, {0, 3, 0}, {0, -1, 0},
-            {Integer.MIN_VALUE, 0, 0}, {0, Integer.MAX_VALUE, 0}, {0, 1, Integer.MAX_VALUE}};
+        int[][] none = {{0, 0, 1}, {0, 1, 4}, {0, 1, -1}, {0, 0, -1}, {0, 2, 0}, {1, 1, 0}, {2, 0, 0},
+            {-1, 0, 0}, {0, 3, 0}, {0, -1, 0}, {Integer.MIN_VALUE, 0, 0}, {0, Integer.MAX_VALUE, 0}, {0, 1, Integer.MAX_VALUE}};
         for (int[] ask : none) {
             CHECK.due("no such field", x.field(ask[0], ask[1], ask[2]), 0);
             CHECK.due("no such capture", x.capture(ask[0], ask[1], ask[2]), 0);

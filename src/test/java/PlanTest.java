@@ -135,6 +135,8 @@ public final class PlanTest {
         CHECK.due("9th type", x.type(NONE, 0, 0), ROOM);
         CHECK.due("OUTSIDE ahead of ROOM", x.type(NONE, 4, 0), OUTSIDE);
         CHECK.due("8 types", x.count(1), 8);
+        CHECK.due("class 8 of eight", x.below(8, 0), UNKNOWN);
+        CHECK.due("parent 8 of eight", x.type(8, 0, 0), UNKNOWN);
     }
 
     private static void passed() {

@@ -295,6 +295,8 @@ public final class RunTest {
         CHECK.due("101st", x.make(0, 0, 0, 0, 0), ROOM);
         CHECK.due("UNKNOWN ahead of ROOM", x.make(1, 0, 0, 0, 0), UNKNOWN);
         CHECK.counts("refused ones are not the latest", x, 0, 1, 100, 0, 0, 1, 1, 0);
+        CHECK.due("the last object", x.told(99, 1), 1);
+        CHECK.due("object 100 of a hundred", x.told(100, 1), UNKNOWN);
     }
 
     private static void callRefusals() {
